@@ -114,9 +114,8 @@ final class Guest {
     return s.toString();
   }
 
-  /** Everything that the questions tell; it takes some 160 of the 512 calls that an object is for. */
+  /** Everything that the questions tell; it takes 161 of the 512 calls that an object is for. */
   static String all(Migrator x) {
-    return "phase " + x.phase() + " round " + x.round() + " dirty " + dirty(x) + " waits " + waiting(x)
-        + " " + inside(x) + " source" + sourceMemory(x) + " destination" + destinationMemory(x);
+    return Picture.of(x).text();
   }
 }

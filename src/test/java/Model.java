@@ -122,41 +122,31 @@ final class Model {
     return 0 <= k && k <= 7 && k < shows.size() ? shows.get(shows.size() - 1 - k) : 0;
   }
 
-  /** The same text that Guest.all makes of the class. */
-  String all() {
-    return "phase " + phase + " round " + round + " dirty " + digits(dirty) + " waits " + digits(waiting)
-        + " pc " + pc + " registers" + registersText() + " shows " + shows.size() + ":" + shownText()
-        + " source" + memoryText(source) + " destination" + memoryText(destination);
+  Picture picture() {
+    Picture p = new Picture();
+    p.phase = phase;
+    p.round = round;
+    p.pc = pc;
+    p.shows = shows.size();
+    p.dirty = digits(dirty);
+    p.waiting = digits(waiting);
+    for (int i = 0; i < 4; i++) {
+      p.registers[i] = register(i);
+    }
+    for (int k = 0; k < 9; k++) {
+      p.shown[k] = shown(k);
+    }
+    for (int address = 0; address < 64; address++) {
+      p.source[address] = source.getOrDefault(address, 0);
+      p.destination[address] = destination.getOrDefault(address, 0);
+    }
+    return p;
   }
 
   private static String digits(TreeSet<Integer> pages) {
     StringBuilder s = new StringBuilder();
     for (int page : pages) {
       s.append(page);
-    }
-    return s.toString();
-  }
-
-  private String registersText() {
-    StringBuilder s = new StringBuilder();
-    for (int i = 0; i < 4; i++) {
-      s.append(' ').append(register(i));
-    }
-    return s.toString();
-  }
-
-  private String shownText() {
-    StringBuilder s = new StringBuilder();
-    for (int k = 0; k < 9; k++) {
-      s.append(' ').append(shown(k));
-    }
-    return s.toString();
-  }
-
-  private static String memoryText(Map<Integer, Integer> memory) {
-    StringBuilder s = new StringBuilder();
-    for (int address = 0; address < 64; address++) {
-      s.append(' ').append(memory.getOrDefault(address, 0));
     }
     return s.toString();
   }

@@ -8,12 +8,12 @@ public final class ModelTest {
 
   private final Due due;
   private final Random random;
-  private final Migrator x = new Migrator();
-  private final Model model = new Model();
+  private final Pair pair;
 
   private ModelTest(Due due, int seed) {
     this.due = due;
     this.random = new Random(seed);
+    this.pair = new Pair(due);
   }
 
   public static void main(String[] args) {
@@ -31,38 +31,33 @@ public final class ModelTest {
 
   private int calls() {
     for (int address = 0; address < 64; address++) {
-      poke(address, Programs.word(random));
+      pair.poke(address, Programs.word(random));
     }
     for (int call = 0; call < CALLS; call++) {
       oneCall();
     }
-    due.same("the last state", Guest.all(x), model.all());
-    return model.phase;
+    pair.compareState("at last");
+    return pair.model.phase;
   }
 
   private void oneCall() {
     int kind = random.nextInt(100);
     if (kind < 45) {
-      due.is("copy()", x.copy(), model.copy());
+      pair.copy();
     } else if (kind < 75) {
-      int n = number(8, 1000);
-      due.is("run(" + n + ")", x.run(n), model.run(n));
+      pair.run(number(8, 1000));
     } else if (kind < 80) {
-      poke(number(64, 64), Programs.word(random));
+      pair.poke(number(64, 64), Programs.word(random));
     } else if (kind < 82) {
-      int threshold = number(9, 9);
-      int limit = number(21, 21);
-      due.is("begin(" + threshold + ", " + limit + ")", x.begin(threshold, limit), model.begin(threshold, limit));
+      pair.begin(number(9, 9), number(21, 21));
     } else {
       question();
     }
   }
 
-  private void poke(int address, int v) {
-    due.is("poke(" + address + ", " + v + ")", x.poke(address, v), model.poke(address, v));
-  }
-
   private void question() {
+    Migrator x = pair.x;
+    Model model = pair.model;
     int i = number(10, 64);
     switch (random.nextInt(10)) {
       case 0 -> due.is("phase()", x.phase(), model.phase);

@@ -13,7 +13,32 @@ public final class UnmovedGuestTest {
     }
     due.at("all runs");
     due.is("more than half of the guests were moved", moved > RUNS / 2, true);
+    for (int threshold : new int[] {0, 1, 7, 8}) {
+      for (int limit : new int[] {1, 2, 10}) {
+        for (int steps = 0; steps <= 65; steps++) {
+          due.at("threshold " + threshold + ", limit " + limit + ", " + steps + " steps after each copy");
+          steady(due, threshold, limit, steps);
+        }
+      }
+    }
     due.end();
+  }
+
+  /** From no step at all between the copies to more than the guest needs to write every page. */
+  private static void steady(Due due, int threshold, int limit, int steps) {
+    Migrator moving = Full.atHome();
+    Migrator unmoved = Full.atHome();
+    moving.begin(threshold, limit);
+    int answer = -1;
+    // Ten rounds and the stop, with nine copies each, are enough.
+    for (int i = 0; i < 99 && answer != 34; i++) {
+      unmoved.run(moving.run(steps));
+      answer = moving.copy();
+    }
+    due.is("the last copy()", answer, 34);
+    unmoved.run(moving.run(70));
+    due.same("the guest", Guest.inside(moving), Guest.inside(unmoved));
+    due.same("its memory", Guest.destinationMemory(moving), Guest.sourceMemory(unmoved));
   }
 
   /** Whether the guest came to the other host. */
